@@ -53,11 +53,9 @@ public final class BurntWays {
     private static final int ACT_SET = 2;
     private static final int ACT_GIVE = 3;
 
-    private final byte[] tape = new byte[TAPE_BYTES];
-    private int tapeLength = 0;
     private int latestTrouble = NO_TROUBLE;
     private boolean loaded = false;
-    private final Reader reader = new Reader(tape);
+    private final Reader reader = new Reader();
     /** The program as it was told, and as it is now. */
     private final Net toldNet = new Net();
     private final Net net = new Net();
@@ -77,29 +75,21 @@ public final class BurntWays {
     // ---- the program
 
     public int feed(int a, int b, int c, int d, int e) {
-        if (tapeLength + FED_BYTES > TAPE_BYTES) {
+        if (reader.tapeLength + FED_BYTES > TAPE_BYTES) {
             return NONE;
         }
-        feedNumber(a);
-        feedNumber(b);
-        feedNumber(c);
-        feedNumber(d);
-        feedNumber(e);
-        return tapeLength;
-    }
-
-    private void feedNumber(int number) {
-        for (int shift = 24; shift >= 0; shift -= 8) {
-            tape[tapeLength] = (byte) (number >> shift);
-            tapeLength++;
-        }
+        reader.put(a);
+        reader.put(b);
+        reader.put(c);
+        reader.put(d);
+        reader.put(e);
+        return reader.tapeLength;
     }
 
     public int program(int n) {
-        if (n < 0 || n > tapeLength) {
+        if (n < 0 || n > reader.tapeLength) {
             return refuse(BAD_NUMBER);
         }
-        tapeLength = 0;
         if (!reader.read(n)) {
             return refuse(FAULTY);
         }
@@ -505,7 +495,7 @@ public final class BurntWays {
             case 4:
                 return marks.count;
             case 5:
-                return tapeLength;
+                return reader.tapeLength;
             case 6:
                 return net.laidInAll();
             default:
@@ -1261,7 +1251,7 @@ public final class BurntWays {
         }
     }
 
-    /** Reads the text of a program into its own net and wants; each method tells whether there is no fault yet. */
+    /** The tape, and how its text is read into a net and wants; what reads tells whether there is no fault yet. */
     private static final class Reader {
         private static final int FORM = 1;
         private static final int STRANGE_NAME = 2;
@@ -1303,6 +1293,8 @@ public final class BurntWays {
         private static final int IS_STRANGE = 23;
         private static final int IS_OVER = 24;
 
+        private final byte[] tape = new byte[TAPE_BYTES];
+        int tapeLength = 0;
         final Net net = new Net();
         final Wants wants = new Wants();
         int fault = 0;
@@ -1310,7 +1302,6 @@ public final class BurntWays {
 
         private final long[] reserved = new long[RESERVED_WORDS];
         private final long[] names = new long[MOST_LINES];
-        private final byte[] text;
         private int textLength = 0;
         /** The token that is looked at: what it is, where it begins and ends, its letters or its number. */
         private int kind = IS_OVER;
@@ -1319,8 +1310,7 @@ public final class BurntWays {
         private long word = 0;
         private int number = 0;
 
-        Reader(byte[] tape) {
-            text = tape;
+        Reader() {
             int at = 0;
             for (int i = 0; i < RESERVED.length() && at < RESERVED_WORDS; i++) {
                 char sign = RESERVED.charAt(i);
@@ -1332,9 +1322,18 @@ public final class BurntWays {
             }
         }
 
-        /** Whether the first bytes of the tape are the text of a program; if not, where the fault is. */
+        /** Four bytes, the highest first; there must be room. */
+        void put(int four) {
+            for (int shift = 24; shift >= 0; shift -= 8) {
+                tape[tapeLength] = (byte) (four >> shift);
+                tapeLength++;
+            }
+        }
+
+        /** Whether the first bytes of the tape are the text of a program; the tape is empty then. */
         boolean read(int length) {
-            textLength = Math.min(length, text.length);
+            textLength = length;
+            tapeLength = 0;
             fault = 0;
             faultPlace = 0;
             behind = 0;
@@ -1560,7 +1559,7 @@ public final class BurntWays {
         /** Looks at the next token; at the end of the text it stays there. */
         private void advance() {
             place = behind;
-            while (place < textLength && text[place] == ' ') {
+            while (place < textLength && tape[place] == ' ') {
                 place++;
             }
             behind = place;
@@ -1568,7 +1567,7 @@ public final class BurntWays {
                 kind = IS_OVER;
                 return;
             }
-            byte sign = text[place];
+            byte sign = tape[place];
             if (sign >= 'a' && sign <= 'z') {
                 lookAtWord();
             } else if (sign >= '0' && sign <= '9') {
@@ -1581,8 +1580,8 @@ public final class BurntWays {
 
         private void lookAtWord() {
             word = 0;
-            while (behind < textLength && text[behind] >= 'a' && text[behind] <= 'z') {
-                word = word * LETTER_BASE + (text[behind] - BEFORE_A);
+            while (behind < textLength && tape[behind] >= 'a' && tape[behind] <= 'z') {
+                word = word * LETTER_BASE + (tape[behind] - BEFORE_A);
                 behind++;
             }
             kind = behind - place <= WORD_LETTERS ? IS_NAME : IS_STRANGE;
@@ -1593,8 +1592,8 @@ public final class BurntWays {
 
         private void lookAtWhole() {
             number = 0;
-            while (behind < textLength && text[behind] >= '0' && text[behind] <= '9') {
-                number = number * 10 + (text[behind] - '0');
+            while (behind < textLength && tape[behind] >= '0' && tape[behind] <= '9') {
+                number = number * 10 + (tape[behind] - '0');
                 behind++;
             }
             kind = behind - place <= WHOLE_DIGITS ? IS_WHOLE : IS_STRANGE;
