@@ -158,6 +158,8 @@ public final class PromiseTest {
         check.due("what is behind is dropped", x.size(5), 0);
         Check.feed(x, "program pqrs");
         check.granted(x, "program(9): the NAME p alone", x.program(9), 1);
+        Check.feed(x, "program endx");
+        check.refused(x, "program(11): the WORD end", x.program(11), 4);
         Check.feed(x, "program p;line p then to p by 123");
         check.granted(x, "program(31): 1 alone", x.program(31), 1);
         check.due("by 1", x.line(0, 4), 1);
@@ -492,6 +494,7 @@ public final class PromiseTest {
         check.due("back(2)", x.back(2), true);
         check.due("folded", x.size(1), 3);
         check.due("STEPS", x.now(1), 0);
+        check.due("it goes on again", x.now(2), 0);
         check.due("back(1)", x.back(1), true);
         check.due("not folded", x.size(1), 4);
         check.due("ended", x.now(2), 1);
@@ -852,6 +855,12 @@ public final class PromiseTest {
         check.due("a before", x.counter(0), 3);
         // p has 2 ways then, and gets them back: a would be 4.
         check.granted(x, "unfair(0, 1, 0)", x.unfair(0, 1, 0), 0);
+        // Once q and r are one, p gives the same line as t does: they are one, too.
+        x = Check.told("program p,q,r,s,t;line p do give r then to s by 1;line q then end;line r then end;"
+                + "line s then to t by 9;line t do give q then to s by 1");
+        check.granted(x, "alike(0, 4) ahead", x.alike(0, 4), 0);
+        check.granted(x, "fold(0)", x.fold(0), 2);
+        check.due("p goes to s twice", x.line(0, 4), 2);
         x = Check.told("program p,q,r;line p do set a 1 then to r by 1;line q do set a 1 then to r by 1;"
                 + "line r do give q then to q by 9");
         check.granted(x, "fold(0)", x.fold(0), 1);
@@ -908,7 +917,14 @@ public final class PromiseTest {
         check.granted(x, "leastLine(3, 2)", x.leastLine(3, 2), 0);
         check.refused(x, "leastLine(2, 2)", x.leastLine(2, 2), 6);
         check.granted(x, "least(9)", x.least(9), 3);
+        // b stays 0 at least: up a, if b to line 1, else line 2; down b, if b to line 2, else line 0 (39 and 10); end.
+        x = Check.told("program p;want 2,2,0,0 is 3;want 0,1,0,0 is 2");
+        check.granted(x, "least(1) by b that turns 0", x.least(1), 3);
+        check.granted(x, "its line 0", x.leastLine(1, 0), 22);
+        check.granted(x, "its line 1", x.leastLine(1, 1), 49);
+        check.granted(x, "its line 2", x.leastLine(1, 2), 0);
         // Another program has other wants.
+        x.least(3);
         Check.tell(x, "program p;want 0,0,0,0 is 1");
         check.granted(x, "least(3) of another program", x.least(3), 1);
         check.granted(x, "leastLine(3, 0) of another program", x.leastLine(3, 0), 3);
