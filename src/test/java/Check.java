@@ -35,6 +35,33 @@ final class Check {
         due(what + ", trouble()", x.trouble(), 0);
     }
 
+    void refused(BurntWays x, String what, boolean got, int number) {
+        due(what, got, false);
+        due(what + ", trouble()", x.trouble(), number);
+    }
+
+    void granted(BurntWays x, String what, boolean got) {
+        due(what, got, true);
+        due(what + ", trouble()", x.trouble(), 0);
+    }
+
+    /** A text that is refused with this fault at this place. */
+    void faulty(String text, int fault, int place) {
+        BurntWays x = new BurntWays();
+        refused(x, text, tell(x, text), 4);
+        due(text + ": fault()", x.fault(), fault);
+        due(text + ": where()", x.where(), place);
+    }
+
+    /** A text that is a program of so many lines. */
+    BurntWays fine(String text, int lines) {
+        BurntWays x = new BurntWays();
+        granted(x, text, tell(x, text), lines);
+        due(text + ": fault()", x.fault(), 0);
+        due(text + ": where()", x.where(), -1);
+        return x;
+    }
+
     boolean isWrong() {
         return wrong > 0;
     }
