@@ -21,6 +21,7 @@ public final class FoldEdgeTest {
         test.alikeInAll();
         test.unlikeByOneThing();
         test.alikeLaidOtherwise();
+        test.alikeInAnotherProgram();
         test.alikeOfLinesNotTold();
         test.unfairBounds();
         test.unfairInOrderOfRefusals();
@@ -114,6 +115,17 @@ public final class FoldEdgeTest {
         // Each to itself isn't to the same line.
         alike("then to p by 1", "then to q by 1", 0);
         alike("then to p by 1", "then to p by 1", 1);
+    }
+
+    /** What an ACT was in the program ahead is of no matter. */
+    private void alikeInAnotherProgram() {
+        BurntWays x = Check.told("program p,q;line p do set a 5,up a,give q,up d then end;line q do up a then to p by 7");
+        check.granted(x, "alike(0, 1)", x.alike(0, 1), 0);
+        check.granted(x, "another program", Check.tell(x, "program p,q;line p do up a,up b then end;line q do up a,up b then end"), 2);
+        check.granted(x, "alike(0, 1) of it", x.alike(0, 1), 1);
+        check.granted(x, "a third one", Check.tell(x, "program p,q;line p do give p then end;line q do give p then end"), 2);
+        check.granted(x, "alike(0, 1) of it", x.alike(0, 1), 1);
+        check.granted(x, "fold(0)", x.fold(0), 1);
     }
 
     private void alikeOfLinesNotTold() {

@@ -479,6 +479,9 @@ public final class InputEdgeTest {
             check.refused(x, "longest(4)", x.longest(4), 2);
             check.granted(x, "whole(" + k + ")", x.whole(k), k == 3 ? 255 : -2);
         }
+        check.granted(x, "most(3, 0)", x.most(3, 0), 1);
+        check.granted(x, "most(2, 0) behind it", x.most(2, 0), 0);
+        check.granted(x, "first(3, 4)", x.first(3, 4), 0);
         Check.tell(x, THREE_ENDS);
         check.granted(x, "longest(2) of another program", x.longest(2), 3);
         check.granted(x, "ends(2, 1) of another program", x.ends(2, 1), 9);

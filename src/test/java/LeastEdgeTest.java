@@ -17,6 +17,8 @@ public final class LeastEdgeTest {
         test.threeLines();
         test.threeDontDo();
         test.waysLaidAsOften();
+        test.bothWaysOfALine();
+        test.bAtZero();
         test.byEndAlone();
         test.sixWants();
         test.countersThatDontCount();
@@ -178,6 +180,20 @@ public final class LeastEdgeTest {
                 check.refused(x, "leastLine(" + (b - 1) + ", 0)", x.leastLine(b - 1, 0), 6);
             }
         }
+    }
+
+    /** Each WAY is LAID w times for itself: TO and ELSE of a line may be taken more than w times together. */
+    private void bothWaysOfALine() {
+        // down b, if b to line 1, else line 1 (39 and 8); up a, if b to line 0, else line 2 (13 and 6); up a, end.
+        leastIs(wanting(0, 2, 3, 0, 4, 5), 3, 47, 19, 13);
+        // up a, if b to line 1, else line 2; down b, if b to line 2, else line 0 (39 and 10); end.
+        leastIs(wanting(2, 2, 3, 0, 1, 2), 1, 22, 49, 0);
+    }
+
+    private void bAtZero() {
+        // down b, if b to line 1, else line 1; up a, if b to line 0, else line 2; down a, end: 0 is 0, as 1 is.
+        leastIs(wanting(0, 0, 0, 0, 1, 0, 0, 2, 1), 1, 47, 19, 26);
+        leastIs(wanting(3, 3, 0, 1, 3, 0, 0, 4, 0), 3, 28, 29, 26);
     }
 
     private void byEndAlone() {

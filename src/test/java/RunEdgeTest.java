@@ -355,6 +355,17 @@ public final class RunEdgeTest {
         x.steps(1);
         check.due("both are given", x.left(0) * 10 + x.left(1), 11);
         check.due("no other one", x.left(2) * 10 + x.left(4), 88);
+        for (int line = 1; line <= 8; line++) {
+            String name = "k" + (char) ('a' + line);
+            x = Check.told("program ka,kb,kc,kd,ke,kf,kg,kh,ki,kj;line ka then to " + name + " by 9;line " + name
+                    + " do down a then if a to ka by 1 else kj by 1;line kj do give " + name + " then to ka by 9");
+            x.start(2, 0, 0, 0);
+            x.steps(4);
+            check.due("both of " + name + " are burnt", x.burnt(), 3 << 2 * line);
+            x.steps(1);
+            check.due("both of " + name + " are given", x.burnt(), 0);
+            check.due("no other one", x.left(0) * 10 + x.left(18), 78);
+        }
     }
 
     private void givesNothing() {
@@ -601,6 +612,9 @@ public final class RunEdgeTest {
         x = Check.told("program p,q;line p do down d then if d to p by 1 else q by 1");
         // Both are at p behind the first STEP; then the one ENDS there by a burnt WAY, the other at q.
         check.granted(x, "both END, but otherwise", x.parted(3, 2), 2);
+        // d is 1 and 2 when both END by 2 with their fourth STEP: with another STEP they would part.
+        x = Check.told("program s,p,q;line s do up d,up d,up d then to p by 1;line p do down d then if d to p by 2 else q by 9");
+        check.granted(x, "nothing is parted behind the end", x.parted(1, 2), -2);
     }
 
     /** The number of an INPUT: the last counter's change comes first. */
@@ -733,5 +747,18 @@ public final class RunEdgeTest {
         x.back(1);
         check.due("all is still burnt by it", x.burnt(), 0xfffff);
         check.due("path(99)", x.path(99), 9);
+        // With a being 3 the rounds are of nine lines from the third on: another one is come to with each STEP.
+        x = Check.told(ring().replace("to ka by 9 else ka by 9", "to ka by 9 else kb by 9"));
+        x.start(10, 0, 0, 0);
+        x.run();
+        x.mark();
+        x.start(3, 0, 0, 0);
+        check.granted(x, "run()", x.run(), 103);
+        check.due("path(98) and path(99)", x.path(98) * 10 + x.path(99), 67);
+        x.mark();
+        x.back(0);
+        check.due("path(98) and path(99) of the first", x.path(98) * 10 + x.path(99), 89);
+        x.back(1);
+        check.due("path(98) and path(99) of the second", x.path(98) * 10 + x.path(99), 67);
     }
 }

@@ -108,6 +108,12 @@ public final class TextEdgeTest {
         check.granted(x, "program(20) of 20 bytes", x.program(20), 1);
         Check.feed(x, "program pqr         ");
         check.granted(x, "program(9): its first NAME is p", x.program(9), 1);
+        Check.feed(x, "program p;line p then to p by 123");
+        check.granted(x, "program(31): it is by 1", x.program(31), 1);
+        check.due("by 1", x.line(0, 4), 1);
+        Check.feed(x, "program p;line p then to p by 123");
+        check.refused(x, "program(32): it is by 12", x.program(32), 4);
+        check.due("out of bounds", x.fault() * 100 + x.where(), 430);
         Check.feed(x, "program pqr         ");
         check.refused(x, "program(8): no NAME", x.program(8), 4);
         check.due("at the end", x.where(), 8);
