@@ -22,7 +22,7 @@ public final class ModelTest {
     }
 
     public static void main(String[] args) {
-        int rows = args.length > 0 ? Integer.parseInt(args[0]) : 250;
+        int rows = args.length > 0 ? Integer.parseInt(args[0]) : 300;
         long seed = args.length > 1 ? Long.parseLong(args[1]) : 1;
         Check check = new Check("ModelTest");
         ModelTest test = new ModelTest(seed, check);
@@ -289,13 +289,19 @@ public final class ModelTest {
         BurntWays x = new BurntWays();
         PlainModel m = new PlainModel();
         StringBuilder row = new StringBuilder("row " + i);
-        for (int call = 0; call < 150 && !check.isWrong(); call++) {
-            if (oneOf(call < 3 ? 2 : 40)) {
+        int told = 0;
+        int calls = 0;
+        // An object is used for 512 calls: a text takes 49 of them at most, any other row of calls 4.
+        while (calls + 49 <= 512 && !check.isWrong()) {
+            if (told == 0 && oneOf(2) || told > 0 && oneOf(40)) {
                 String text = oneOf(4) ? anyText() : text();
                 row.append(" | ").append(text);
                 tellBoth(x, m, text, row.toString());
+                told++;
+                calls += (text.length() + 19) / 20 + 4;
             } else {
                 compare(x, m, 4 + below(CALLS - 4), row);
+                calls += 4;
             }
         }
     }
