@@ -843,7 +843,8 @@ public final class BurntWays {
         }
 
         void beginInput(Net net, int bound, int input) {
-            int base = bound + 1;
+            // It divides: a bound that isn't told must not make it 0.
+            int base = Math.max(bound, 0) + 1;
             int d = input % base;
             int c = input / base % base;
             int b = input / (base * base) % base;
