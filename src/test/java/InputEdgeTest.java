@@ -44,6 +44,7 @@ public final class InputEdgeTest {
         test.spareIsLessThanAll();
         test.spareIsTheGreatest();
         test.spareKeepsTheEnds();
+        test.spareTellsCountersApart();
         test.spareIsOfOneWay();
         test.spareBounds();
         test.theRunStays();
@@ -420,6 +421,18 @@ public final class InputEdgeTest {
                 + "line s do down d then if d to s by 2 else t by 1;line t then end");
         check.granted(x, "spare(2, 6)", x.spare(2, 6), 1);
         check.granted(x, "spare(3, 6)", x.spare(3, 6), 0);
+    }
+
+    /** Nine rounds make d 99; with one less it ENDS there, else with d as y sets it, and c 1 more. */
+    private void spareTellsCountersApart() {
+        for (int low = 0; low <= 3; low++) {
+            BurntWays x = Check.told("program s,y,x,z,v;line s do set b 9 then to y by 2;line y do set d " + low
+                    + ",up c then to x by 1;line x do up d,up d,up d,up d then to z by 9;line z do up d,up d,up d,up d then to v by 9;"
+                    + "line v do up d,up d,up d,down b then if b to x by 9 else s by 1");
+            x.run();
+            check.due("b, c, d at the end", x.counter(1) * 10000 + x.counter(2) * 100 + x.counter(3), 90200 + low);
+            check.granted(x, "spare(0, 0): 99 isn't " + low + " with c 1 more", x.spare(0, 0), 0);
+        }
     }
 
     private void spareIsOfOneWay() {
