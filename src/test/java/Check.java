@@ -2,12 +2,28 @@ import java.util.NoSuchElementException;
 
 /** Counts the answers that are not the due ones, and tells programs as texts. */
 final class Check {
+    private static final long MOST_MILLISECONDS = 600_000;
+
     private final String about;
     private int checked = 0;
     private int wrong = 0;
 
     Check(String about) {
         this.about = about;
+        Thread guard = new Thread(this::failIfItNeverEnds);
+        guard.setDaemon(true);
+        guard.start();
+    }
+
+    /** A call that doesn't end must not hold up .ci/run for ever. */
+    private void failIfItNeverEnds() {
+        try {
+            Thread.sleep(MOST_MILLISECONDS);
+        } catch (InterruptedException e) {
+            return;
+        }
+        System.out.println(about + ": it doesn't end");
+        Runtime.getRuntime().halt(1);
     }
 
     void due(String what, long got, long want) {
